@@ -56,6 +56,8 @@ public final class Bookingstree {
   private final House house;
   /** In this one all that is told is called again, to see whether it comes to the same. */
   private final House mirror;
+  /** How many of those told were called in the mirror: only those behind them are left to call. */
+  private int mirrored;
   private final Dealer dealer;
   private final Picker picker;
   private final ArrayList<Call> told;
@@ -65,6 +67,7 @@ public final class Bookingstree {
   public Bookingstree() {
     house = new House();
     mirror = new House();
+    mirrored = 0;
     dealer = new Dealer();
     picker = new Picker();
     told = new ArrayList<Call>();
@@ -221,7 +224,12 @@ public final class Bookingstree {
       throw new IllegalStateException("nothing is told");
     }
     told.remove(told.size() - 1);
-    retell(house);
+    house.empty();
+    for (int i = 0; i < told.size(); i++) {
+      house.carryOut(told.get(i));
+    }
+    mirror.empty();
+    mirrored = 0;
     return told.size();
   }
 
@@ -385,7 +393,7 @@ public final class Bookingstree {
   }
 
   public boolean isSound() {
-    retell(mirror);
+    mirrorAll();
     picker.lineUp(house.waiting, house.clean);
     return house.isInOrder()
         && dealer.deal(house.booked, house.clean) == dealer.peak(house.booked, house.clean)
@@ -428,15 +436,17 @@ public final class Bookingstree {
       for (int what = 0; what <= 6; what++) {
         d = d * 31 + ofRoom(room, what);
       }
-      for (int what = 0; what <= 4; what++) {
-        d = d * 31 + at(room, 0, what);
-      }
-      for (int what = 0; what <= 4; what++) {
-        d = d * 31 + at(room, 10, what);
-      }
-      for (int what = 0; what <= 4; what++) {
-        d = d * 31 + at(room, 50, what);
-      }
+      d = digestNight(d, room, 0);
+      d = digestNight(d, room, 10);
+      d = digestNight(d, room, 50);
+    }
+    return d;
+  }
+
+  private long digestNight(long before, int room, int night) {
+    long d = before;
+    for (int what = 0; what <= 4; what++) {
+      d = d * 31 + at(room, night, what);
     }
     return d;
   }
@@ -462,11 +472,11 @@ public final class Bookingstree {
     return house.carryOut(call);
   }
 
-  private void retell(House anew) {
-    anew.empty();
-    for (int i = 0; i < told.size(); i++) {
-      anew.carryOut(told.get(i));
+  private void mirrorAll() {
+    for (int i = mirrored; i < told.size(); i++) {
+      mirror.carryOut(told.get(i));
     }
+    mirrored = told.size();
   }
 
   private int never() {
@@ -1409,8 +1419,8 @@ public final class Bookingstree {
       for (int i = 0; i < booked.size(); i++) {
         Stay stay = booked.get(i);
         int till = stay.last() + clean;
-        for (int night = stay.first; night <= till && night >= 0 && night < takers.length; night++) {
-          takers[night]++;
+        for (int n = stay.first; n <= till && n >= 0 && n < takers.length; n++) {
+          takers[n]++;
         }
       }
     }
@@ -1484,8 +1494,8 @@ public final class Bookingstree {
         Stay stay = row.get(i);
         int till = stay.last() + clean;
         int lack = stay.worth;
-        for (int night = stay.first; night <= till && night >= 0 && night < prices.length; night++) {
-          lack -= prices[night];
+        for (int n = stay.first; n <= till && n >= 0 && n < prices.length; n++) {
+          lack -= prices[n];
         }
         if (lack > 0 && till >= 0 && till < prices.length) {
           prices[till] += lack;

@@ -124,7 +124,8 @@ public final class AgainstPlainTest {
 
   private int aStay() {
     int stays = stays();
-    return random.nextBoolean() ? random.nextInt(stays) : Math.max(0, stays - 1 - random.nextInt(12));
+    return random.nextBoolean() ? random.nextInt(stays)
+        : Math.max(0, stays - 1 - random.nextInt(12));
   }
 
   /** A number as the call may take it for the argument at that place. */
