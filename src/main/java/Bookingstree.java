@@ -1555,6 +1555,9 @@ public final class Bookingstree {
 
     /** How many of the row stand ahead of this one and do not meet it: a beginning of the row. */
     private int aheadOf(int place) {
+      if (place < 0 || place >= row.size()) {
+        return 0;
+      }
       int many = place;
       while (many > 0 && row.get(many - 1).last() + clean >= row.get(place).first) {
         many--;

@@ -297,6 +297,12 @@ public final class AskedPromisesTest {
     x.book(0, 0, 2, 1);
     Check.is(3, x.dealing(1), "32: three");
     Check.is(0, x.dealing(2), "32: the first NIGHT of all");
+    make(0, 0);
+    x.book(0, 5, 1, 1);
+    x.book(0, 0, 1, 1);
+    x.book(0, 0, 1, 1);
+    Check.is(2, x.dealing(1), "32: two in the first NIGHT");
+    Check.is(0, x.dealing(2), "32: the first NIGHT");
     Check.argument(() -> x.dealing(-1), "32: what -1");
     Check.argument(() -> x.dealing(3), "32: what 3");
   }

@@ -10,6 +10,7 @@ public final class WouldPromisesTest {
     movesWithCleaning();
     movesOutOfOneRoom();
     movesOfTwoWithCleaning();
+    movesIntoWhichRoom();
     movesOfTheFirstStay();
     movesOneAfterTheOther();
     movesWithout();
@@ -115,6 +116,30 @@ public final class WouldPromisesTest {
     Check.is(2, x.moves(0, 2, 1), "34: and they change ROOMS");
     Check.is(-1, x.moves(0, 3, 1), "34: the cleaning of the one that comes MEETS it");
     Check.is(-1, x.moves(0, 4, 1), "34: its FIRST does");
+  }
+
+  private static void movesIntoWhichRoom() {
+    make(1, 0, 2);
+    put(0, 3, 3, 2);
+    put(1, 3, 4, 2);
+    x.close(2, 5, 5);
+    Check.is(2, x.moves(0, 5, 1), "34: into the first ROOM of all");
+    make(0, 1, 2);
+    put(0, 0, 3, 1);
+    put(1, 3, 3, 1);
+    Check.is(-1, x.moves(0, 3, 1), "34: nobody goes to a ROOM of another KIND");
+    make(0, 1);
+    x.clean(1);
+    put(0, 3, 2, 1);
+    put(1, 3, 1, 1);
+    Check.is(2, x.moves(0, 3, 1), "34: they change ROOMS, the other one is ahead");
+    Check.is(-1, x.moves(0, 2, 1), "34: the other one's cleaning MEETS it");
+    make(0, 1);
+    put(0, 3, 4, 1);
+    put(0, 3, 0, 1);
+    put(0, 3, 2, 1);
+    Check.is(-1, x.moves(0, 0, 5), "34: three, the first STAY of all behind");
+    Check.is(2, x.moves(0, 0, 4), "34: without it two");
   }
 
   private static void movesOfTheFirstStay() {
