@@ -1,6 +1,6 @@
 /** Promises 22 to 33: what is asked of the house as it is. */
 public final class AskedPromisesTest {
-  private static Bookingstree x;
+  private static Used x;
 
   private AskedPromisesTest() {
   }
@@ -22,7 +22,7 @@ public final class AskedPromisesTest {
   }
 
   private static void make(int... kinds) {
-    x = new Bookingstree();
+    x = new Used();
     for (int kind : kinds) {
       x.room(kind);
     }

@@ -1,6 +1,6 @@
 /** Promises 1 to 7 and 18 to 21: the house, what is undone, what is never let. */
 public final class HousePromisesTest {
-  private static Bookingstree x;
+  private static Used x;
 
   private HousePromisesTest() {
   }
@@ -22,7 +22,7 @@ public final class HousePromisesTest {
   }
 
   private static void make(int... kinds) {
-    x = new Bookingstree();
+    x = new Used();
     for (int kind : kinds) {
       x.room(kind);
     }
@@ -38,7 +38,7 @@ public final class HousePromisesTest {
     }
     Check.is("", x.chosen(false), "1: nobody is WAITING");
     Check.is(true, x.isSound(), "1: a new object is SOUND");
-    Bookingstree other = new Bookingstree();
+    Used other = new Used();
     other.room(0);
     other.knock();
     Check.is(0, x.house(0), "1: an object has its own ROOMS");

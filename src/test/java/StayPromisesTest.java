@@ -2,7 +2,7 @@
 public final class StayPromisesTest {
   private static final int LEAST = Integer.MIN_VALUE;
   private static final int GREATEST = Integer.MAX_VALUE;
-  private static Bookingstree x;
+  private static Used x;
 
   private StayPromisesTest() {
   }
@@ -26,7 +26,7 @@ public final class StayPromisesTest {
   }
 
   private static void make(int... kinds) {
-    x = new Bookingstree();
+    x = new Used();
     for (int kind : kinds) {
       x.room(kind);
     }

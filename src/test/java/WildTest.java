@@ -32,6 +32,7 @@ public final class WildTest {
 
   private static void run(Random random, int calls, int wilds) {
     Bookingstree x = new Bookingstree();
+    int made = 0;
     for (int i = 0; i < calls; i++) {
       String[] names = random.nextInt(3) == 0 ? Runs.ASKED : Runs.TOLD;
       String name = names[random.nextInt(names.length)];
@@ -40,8 +41,9 @@ public final class WildTest {
         a[k] = random.nextInt(100) < wilds ? WILD[random.nextInt(WILD.length)]
             : random.nextInt(k == 0 ? 6 : 20);
       }
-      boolean isLookedAt = i < 512 && random.nextInt(8) == 0;
+      boolean isLookedAt = made + 3 <= 512 && random.nextInt(8) == 0;
       long before = isLookedAt ? x.digest() : 0;
+      made += isLookedAt ? 3 : 1;
       try {
         Runs.tell(x, name, a);
       } catch (RuntimeException e) {
@@ -75,12 +77,12 @@ public final class WildTest {
     for (int i = 0; i < 10; i++) {
       x.group(0, 9 * i, 5, 4, 500);
     }
-    for (int i = 14; i < 512; i += 2) {
-      x.cancel(x.house(1) - 40);
-      x.hold(0, 9 * ((x.house(1) / 4) % 10), 5, 500, 99);
+    for (int stay = 0; stay < 248; stay++) {
+      Check.is(stay % 4, x.cancel(stay), "13: its ROOM");
+      Check.is(40 + stay, x.hold(0, 9 * (stay / 4 % 10), 5, 500, 99), "9: its number");
     }
     Check.is(true, x.isSound(), "39: with very many stays");
-    Check.is(40 + 249, x.house(1), "29: STAYS that were kept ever");
+    Check.is(40 + 248, x.house(1), "29: STAYS that were kept ever");
     for (int i = 0; i < 1000; i++) {
       try {
         x.cancel(x.house(1) - 40);

@@ -1,6 +1,6 @@
 /** Promises 34 to 40: what would be, one room for those who wait, soundness and the checksum. */
 public final class WouldPromisesTest {
-  private static Bookingstree x;
+  private static Used x;
 
   private WouldPromisesTest() {
   }
@@ -27,7 +27,7 @@ public final class WouldPromisesTest {
   }
 
   private static void make(int... kinds) {
-    x = new Bookingstree();
+    x = new Used();
     for (int kind : kinds) {
       x.room(kind);
     }
@@ -410,39 +410,8 @@ public final class WouldPromisesTest {
     }
   }
 
-  /** The checksum by its words, over what else the object answers. */
   private static long byItsWords() {
-    long d = 7193;
-    for (int what = 0; what <= 13; what++) {
-      d = d * 31 + x.house(what);
-    }
-    for (int room = 0; room < x.house(0); room++) {
-      for (int what = 0; what <= 6; what++) {
-        d = d * 31 + x.ofRoom(room, what);
-      }
-      for (int night : new int[] {0, 10, 50}) {
-        for (int what = 0; what <= 4; what++) {
-          d = d * 31 + x.at(room, night, what);
-        }
-      }
-    }
-    for (int stay = x.house(1) - 1; stay >= 0 && stay >= x.house(1) - 10; stay--) {
-      for (int what = 0; what <= 8; what++) {
-        d = d * 31 + x.ofStay(stay, what);
-      }
-      d = d * 31 + x.dealt(stay);
-    }
-    for (int night = 0; night <= 30; night++) {
-      d = d * 31 + x.busy(night);
-    }
-    int[] last = {x.dealing(0), x.dealing(1), x.dealing(2), x.free(3, 10, 5, true),
-        x.free(3, 10, 5, false), x.moves(3, 10, 5), x.price(0, 10, 5), x.odds(10, 1, 5),
-        x.oneRoom(0), x.oneRoom(1), x.oneRoom(2), x.oneRoom(3), x.chosen(false).length(),
-        x.chosen(true).length(), x.isSound() ? 1 : 0};
-    for (int v : last) {
-      d = d * 31 + v;
-    }
-    return d;
+    return Words.whole(Words.numbers(new Asker(x))).longValue();
   }
 
   private static void digest() {
