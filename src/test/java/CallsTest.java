@@ -53,6 +53,7 @@ public final class CallsTest {
     onlyNines();
     onlyWhatThrows();
     theSameStepBackAndForth();
+    behindTheLastOne();
     Check.end();
   }
 
@@ -214,5 +215,19 @@ public final class CallsTest {
       Check.is(1, x.undo(), "18: call " + (call + 1));
     }
     Check.is("....................", x.text(0, 0), "26: the 512th call");
+  }
+
+  /** The document leaves it free; it is what README.md says. */
+  private static void behindTheLastOne() {
+    Bookingstree x = new Bookingstree();
+    for (int call = 0; call < CALLS; call++) {
+      x.base(0, call % 2);
+    }
+    Check.is(-1, x.base(0, 500), "the 513th that would be TOLD");
+    Check.is(-1, x.room(0), "the next one");
+    Check.is(CALLS, x.house(9), "none of them is on the row");
+    Check.is(1, x.price(0, 0, 1), "none of them was carried out");
+    Check.is(0, x.house(0), "none of them was carried out");
+    Check.is(true, x.isSound(), "all is sound");
   }
 }
